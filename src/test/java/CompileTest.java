@@ -4,6 +4,9 @@ public final class CompileTest {
     // Bends: 10 + 9 + 8 + 7 + 9 + 4 + 1 = 48, and so 60 places with the twelve nodes.
     private static final String SIXTY = CHAIN + "a>l;a>k;a>j;a>i;b>l;b>g;d>f;";
 
+    // The same upside down, so that most bends belong to edges to a.
+    private static final String SIXTY_UP = "l>k>j>i>h>g>f>e>d>c>b>a;l>a;k>a;j>a;i>a;l>b;g>b;f>d;";
+
     public static void main(String[] args) {
         places("", 0);
         places("a;", 1);
@@ -15,6 +18,8 @@ public final class CompileTest {
         places(CHAIN, 12);
         places(SIXTY, 60);
         conflict(SIXTY + "e>g;");
+        places(SIXTY_UP, 60);
+        conflict(SIXTY_UP + "g>e;");
         conflict("a>b;=ab;");
         conflict("=ab;=bc;a>c;");
         conflict("=ad;a>b;c>d;=bce;");

@@ -21,6 +21,9 @@ public final class EdgeTest {
         // b is come to from a first, so that c, b leads to a closed node and stays.
         edges("a>b;a>c;c>b;", "ab1 ac1 cb1", "");
         edges("l>k>l;", "kl2", "lk");
+        // All twelve nodes are open when the last one leads back.
+        edges("a>b>c>d>e>f>g>h>i>j>k>l>a2;", "ab1 bc1 cd1 de1 ef1 fg1 gh1 hi1 ij1 jk1 kl1 al2", "la");
+        edges("a>b>c>d>e>f>g>h>i>j>k>l>k;", "ab1 bc1 cd1 de1 ef1 fg1 gh1 hi1 ij1 jk1 kl2", "lk");
         wrongNumbers();
         Check.end();
     }
