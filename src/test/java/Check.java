@@ -9,8 +9,14 @@ final class Check {
     static final Class<java.util.NoSuchElementException> MISSING = java.util.NoSuchElementException.class;
 
     private static int wrong = 0;
+    private static String sentence = "";
 
     private Check() { }
+
+    /** The document's words that the checks from here on are about; they are printed with what fails. */
+    static void about(String words) {
+        sentence = " (\"" + words + "\")";
+    }
 
     static long pack(String signs) {
         long packed = 0;
@@ -67,7 +73,7 @@ final class Check {
     static void report(String line) {
         wrong++;
         if (wrong <= 50) {
-            System.out.println(line);
+            System.out.println(line + sentence);
         }
     }
 

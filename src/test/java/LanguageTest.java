@@ -12,6 +12,7 @@ public final class LanguageTest {
         "\\bObject\\b", "\\bMath\\.(?!min|max|abs)", "\\bArrays\\.(?!fill)", "\\bgetMessage\\b", "\\bRandom\\b",
         "Exact\\(", "while \\(true\\)", "\\bstatic (?!final)[\\w\\[\\]]+ \\w+( =.*)?;");
     private static final Set<String> IMPORTS = Set.of("import java.util.Arrays;", "import java.util.NoSuchElementException;");
+    private static final String MADE = " +throw new .*|        final [^(]* = new .*|        \\w+ = new \\w+\\(\\);";
 
     public static void main(String[] args) throws Exception {
         List<String> lines = Files.readAllLines(Path.of("src/main/java/DiagramPress.java"));
@@ -25,6 +26,10 @@ public final class LanguageTest {
             }
             if (line.startsWith("import") && !IMPORTS.contains(line)) {
                 Check.report("the language has no " + line);
+            }
+            // All that is made is made with the object, but for exceptions, so that no call takes more room.
+            if (line.contains("new ") && !line.matches(MADE)) {
+                Check.report("made outside of constructors: " + line);
             }
             Matcher method = Pattern.compile("^ {4,8}[^ /*=;]+ .*\\((.*)\\)[^;=]*\\{$").matcher(line);
             if (method.find()) {
