@@ -30,20 +30,13 @@ public final class FaceTest {
             "int pixel(int, int) " + A + " " + N,
             "int count(int) " + A + " " + N));
         TreeSet<String> got = new TreeSet<>();
-        TreeSet<String> hidden = new TreeSet<>();
         for (Method method : face.getDeclaredMethods()) {
-            if (Modifier.isPrivate(method.getModifiers())) {
-                hidden.add(method.getName());
-            } else {
+            if (!Modifier.isPrivate(method.getModifiers())) {
                 got.add(told(method));
             }
         }
         if (!got.equals(due)) {
             Check.report("the methods are " + got + ", due are " + due);
-        }
-        for (String line : due) {
-            String name = line.substring(line.indexOf(' ') + 1, line.indexOf('('));
-            Check.same("private methods named " + name, hidden.contains(name) ? 1 : 0, 0);
         }
         Check.same("constructors", face.getDeclaredConstructors().length, 1);
         for (Constructor<?> constructor : face.getDeclaredConstructors()) {
